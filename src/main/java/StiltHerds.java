@@ -251,7 +251,7 @@ public final class StiltHerds {
         }
         int water = land.weatherOn(WATER, day);
         int best = NONE;
-        for (int at = 0; at < CELLS; at++) {
+        for (int at = 0; at < land.span(); at++) {
             if (land.hasCell(at)
                 && (best == NONE || land.depthOf(at, water) > land.depthOf(best, water))) {
                 best = at;
@@ -779,7 +779,8 @@ public final class StiltHerds {
             int digits = 0;
             int number = 0;
             int word = 0;
-            for (boolean goesOn = true; goesOn && next < length; ) {
+            boolean goesOn = true;
+            while (goesOn && next < length) {
                 int sign = bytes[next];
                 if (sign >= 'a' && sign <= 'z') {
                     letters++;
@@ -830,7 +831,7 @@ public final class StiltHerds {
             empty();
         }
 
-        private void empty() {
+        void empty() {
             Arrays.fill(thing, NONE);
             Arrays.fill(things, 0);
             Arrays.fill(weather, NONE);
@@ -845,10 +846,6 @@ public final class StiltHerds {
             wolfDepth = 0;
             lawTold = false;
             woodTold = false;
-        }
-
-        void beginText() {
-            empty();
         }
 
         void copyFrom(Moor other) {
@@ -870,6 +867,11 @@ public final class StiltHerds {
             wolfDepth = other.wolfDepth;
             lawTold = other.lawTold;
             woodTold = other.woodTold;
+        }
+
+        /** All CELLS have lower numbers than this; those between that are none are never come to. */
+        int span() {
+            return SIDE * rows;
         }
 
         boolean hasCell(int at) {
@@ -1024,7 +1026,7 @@ public final class StiltHerds {
         /** How many LINES, or -1 less the place of a FAULT. */
         int readMoor(Moor land) {
             fault = 0;
-            land.beginText();
+            land.empty();
             tape.beginText(MOOR_BYTES);
             for (int i = 0; i <= MOOR_BYTES; i++) {
                 tape.readToken();
@@ -1311,13 +1313,13 @@ public final class StiltHerds {
         }
 
         private void openFor(int h, int water) {
-            for (int at = 0; at < CELLS; at++) {
+            for (int at = 0; at < land.span(); at++) {
                 open[at] = land.canStand(at, h, water);
             }
         }
 
         void openForWolf(int water) {
-            for (int at = 0; at < CELLS; at++) {
+            for (int at = 0; at < land.span(); at++) {
                 open[at] = land.depthOf(at, water) <= land.wolfDepth;
             }
         }
@@ -1380,7 +1382,7 @@ public final class StiltHerds {
 
         /** The cost of each open CELL: least RISK to the one given, and of such fewest STEPS. */
         private void costFrom(int to, int h, int wind) {
-            for (int at = 0; at < CELLS; at++) {
+            for (int at = 0; at < land.span(); at++) {
                 costs[at] = FAR_OFF;
                 closed[at] = !open[at];
             }
@@ -1402,7 +1404,7 @@ public final class StiltHerds {
         private int cheapest() {
             int best = NONE;
             int least = FAR_OFF;
-            for (int at = 0; at < CELLS; at++) {
+            for (int at = 0; at < land.span(); at++) {
                 if (!closed[at] && costs[at] < least) {
                     least = costs[at];
                     best = at;
@@ -1483,7 +1485,7 @@ public final class StiltHerds {
         }
 
         private void prepare(int water) {
-            for (int at = 0; at < CELLS; at++) {
+            for (int at = 0; at < land.span(); at++) {
                 int door = land.thing[DOOR * CELLS + at];
                 int least = Math.max(land.depthOf(at, water), land.thing[MUD * CELLS + at]);
                 int most = door == NONE ? MOST_NUMBER : door;
@@ -1634,10 +1636,12 @@ public final class StiltHerds {
 
         int seeingsBetween(int from, int to) {
             int bits = 1 << from;
-            for (int many = 0; many <= HERDS; many++) {
+            int before = 0;
+            for (int many = 0; many <= HERDS && bits != before; many++) {
                 if ((bits >>> to & 1) == 1) {
                     return many;
                 }
+                before = bits;
                 bits = handOn(bits);
             }
             return NONE;
@@ -1650,13 +1654,21 @@ public final class StiltHerds {
             for (int h = 0; h < land.herds; h++) {
                 if ((told >>> h & 1) == 0) {
                     lit |= 1 << h;
-                    told |= 1 << h;
-                    for (int i = 0; i < HERDS; i++) {
-                        told = handOn(told);
-                    }
+                    told |= groupOf(h);
                 }
             }
             return lit;
+        }
+
+        /** All HERDS to which a signal of one is HANDED ON. */
+        private int groupOf(int h) {
+            int bits = 1 << h;
+            int before = 0;
+            for (int i = 0; i < HERDS && bits != before; i++) {
+                before = bits;
+                bits = handOn(bits);
+            }
+            return bits;
         }
     }
 

@@ -57,6 +57,7 @@ public final class LandTest {
         StiltHerds y = Desk.on("row 1 2;herd a 0 0 99;herd b 0 0 0;");
         DESK.due("STILTS without a law", y.herd(0, 2), 99);
         DESK.due("TIMBER without timber", y.herd(0, 3), 198);
+        DESK.due("timber() of the first HERD too", y.timber(), 198);
         DESK.due("timber() of an empty moor", new StiltHerds().timber(), 0);
     }
 

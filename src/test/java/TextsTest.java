@@ -194,6 +194,8 @@ public final class TextsTest {
         DESK.due("900 bytes, the last one a ;", Desk.moor(x, (head + blanks).substring(0, 892) + "law 1 2;"), 2);
         DESK.moorFault((head + blanks).substring(0, 892) + "law 1 2;;", 900, 1);
         DESK.moorFault((head + blanks).substring(0, 900) + "?", 900, 1);
+        DESK.moorFault(("law 1 2;" + blanks).substring(0, 899) + "law 1 2;", 899, 3);
+        DESK.moorFault(("law 1 2;" + blanks).substring(0, 900) + "law 1 2;", 900, 1);
         DESK.moorFault("row 1 ;" + blanks, 6, 4);
         String days = times("day;", 30);
         StiltHerds y = new StiltHerds();

@@ -224,6 +224,7 @@ public final class WaysTest {
         // RISKS of 99 and above: (1 * 1103515245 + 12345) >>> 8 is 4310655, which draws 55.
         DESK.due("walk() in a storm", x.walk(0, 2, 10, 1), 1);
         DESK.due("falls() in a storm", x.falls(0, 2, 99, 200, 5), 200);
+        DESK.due("falls() of one walk", x.falls(0, 2, 10, 1, 1), 1);
         x.day();
         draws(x);
         DESK.due("falls() of 0", x.falls(0, 2, 0, 0, 1), -1);
