@@ -629,7 +629,8 @@ public final class StiltHerds {
         }
         acts.begin();
         int line = acts.follow(here.plan);
-        if (lives == 1) {
+        // A PLAN of which no LINE was done is no ACT done: there would be nothing to undo.
+        if (lives == 1 && acts.verdict[LINES_DONE] > 0) {
             acts.settle();
         }
         return line;

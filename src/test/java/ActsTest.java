@@ -123,6 +123,37 @@ public final class ActsTest {
         DESK.due("a FAULT leaves it undoable", x.undo(), 0);
     }
 
+    /** Promise 31: a PLAN of which no LINE was done is no ACT done. */
+    private static void undoOfNoLines() {
+        StiltHerds x = new StiltHerds();
+        x.judge(1);
+        DESK.due("undo() behind no PLAN", x.undo(), -1);
+        x = Desk.on("row 5 5;herd a 1 0 9;");
+        Desk.plan(x, "sell a 99;day;");
+        DESK.due("LINE 0 is WRONG", x.judge(1), 0);
+        DESK.due("undo() behind a WRONG LINE 0", x.undo(), -1);
+        x.day();
+        x.judge(1);
+        x.plan();
+        x.judge(1);
+        DESK.due("undo() of the day ahead of both", x.undo(), 0);
+        DESK.due("DAY behind it", x.count(7), 0);
+        for (int i = 0; i < 8; i++) {
+            x.day();
+        }
+        x.judge(1);
+        DESK.due("no place of the 8 was taken", x.undo(), 7);
+        DESK.due("DAY behind the latest of 8", x.count(7), 7);
+        Desk.plan(x, "go a 1 0;");
+        x.judge(1);
+        DESK.due("a LINE that changes nothing is done, too", x.undo(), 7);
+        DESK.due("DAY behind such a LINE", x.count(7), 7);
+        Desk.plan(x, "day;sell a 99;");
+        DESK.due("LINE 1 is WRONG", x.judge(1), 1);
+        DESK.due("undo() of LINE 0 alone", x.undo(), 7);
+        DESK.due("DAY behind LINE 0", x.count(7), 7);
+    }
+
     /** Promises 46 and 47. */
     private static void judge() {
         StiltHerds x = Desk.on("row 5 5 5;row 5 0 5;water 2 9;wolf 0 0 0;herd ann 1 0 9;herd bob 2 1 2;");
@@ -295,6 +326,7 @@ public final class ActsTest {
         wolfOrders();
         acts();
         undo();
+        undoOfNoLines();
         judge();
         wrongLines();
         holes();

@@ -1065,7 +1065,7 @@ final class Oracle {
         }
         verdict = new int[] {wrong, line, t.day, t.heads.stream().mapToInt(i -> i).sum(), stepsGone,
             t.taken - s.taken};
-        if (lives == 1) {
+        if (lives == 1 && line > 0) {
             keep(t);
         }
         return wrong == 0 ? NONE : line;
