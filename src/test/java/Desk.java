@@ -1,16 +1,51 @@
+import java.lang.reflect.InvocationTargetException;
+import java.lang.reflect.Method;
+import java.util.Arrays;
+import java.util.Comparator;
 import java.util.NoSuchElementException;
 
 /** What the tests of the promises share: texts put on tapes, and answers compared with what is due. */
 final class Desk {
+    /** No CELLS of a MOOR of three columns and two rows; no NUMBERS; no DAYS; none of two HERDS. */
+    static final int[] NO_CELLS = {-1, -9, -10, -11, 3, 9, 13, 19, 20, 99, 100, 110, Integer.MIN_VALUE, Integer.MAX_VALUE};
+    static final int[] NO_NUMBERS = {-1, 100, 256, Integer.MIN_VALUE, Integer.MAX_VALUE};
+    static final int[] NO_DAYS = {-1, 30, 31, Integer.MIN_VALUE, Integer.MAX_VALUE};
+    static final int[] NO_HERDS = {-1, 2, 7, 8, 9, Integer.MIN_VALUE, Integer.MAX_VALUE};
     private int checks = 0;
     private int wrong = 0;
+    /** The test that runs, so that a check that fails tells whose it is. */
+    private String test = "";
 
     void due(String what, long got, long want) {
         checks++;
         if (got != want) {
             wrong++;
-            System.out.println(what + " answered " + got + ", due is " + want);
+            System.out.println(test + what + " answered " + got + ", due is " + want);
         }
+    }
+
+    /** Runs each method of a class that is marked as a test; one without a check fails. */
+    void runEach(Class<?> tests) throws ReflectiveOperationException {
+        Method[] methods = tests.getDeclaredMethods();
+        Arrays.sort(methods, Comparator.comparing(Method::getName));
+        for (Method m : methods) {
+            Sentence sentence = m.getAnnotation(Sentence.class);
+            if (sentence == null) {
+                continue;
+            }
+            test = m.getName() + " (" + sentence.value() + "): ";
+            int before = checks;
+            m.setAccessible(true);
+            try {
+                m.invoke(null);
+            } catch (InvocationTargetException e) {
+                wrong++;
+                System.out.println(test + "threw " + e.getCause());
+            }
+            due("makes checks", checks > before, true);
+        }
+        test = "";
+        finish(tests.getSimpleName());
     }
 
     void due(String what, boolean got, boolean want) {
@@ -84,6 +119,29 @@ final class Desk {
         due("fault of " + text, x.fault(), kind);
         due("the plan stays behind " + text, x.count(8), 2);
         due("the tape is empty behind " + text, x.count(9), 0);
+    }
+
+    /** As moorFault(), with the place told by an @ ahead of it, which is no part of the text. */
+    void moorFaultAt(String marked, int kind) {
+        moorFault(marked.replace("@", ""), marked.indexOf('@'), kind);
+    }
+
+    void planFaultAt(String marked, int kind) {
+        planFault(marked.replace("@", ""), marked.indexOf('@'), kind);
+    }
+
+    /** Checks a text that is a MOOR: how many LINES it has, and that there is no FAULT. */
+    void moorLines(String text, int lines) {
+        StiltHerds x = new StiltHerds();
+        due("moor " + text, moor(x, text), lines);
+        due("fault of " + text, x.fault(), 0);
+    }
+
+    void planLines(String text, int lines) {
+        StiltHerds x = on("row 1 2 3;row 1 2 3;herd ann 0 0 5;herd bob 1 1 9;");
+        due("plan " + text, plan(x, text), lines);
+        due("fault of " + text, x.fault(), 0);
+        due("LINES of the plan " + text, x.count(8), lines);
     }
 
     void noCell(StiltHerds x, int at, int what) {
