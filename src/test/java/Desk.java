@@ -3,6 +3,7 @@ import java.lang.reflect.Method;
 import java.util.Arrays;
 import java.util.Comparator;
 import java.util.NoSuchElementException;
+import java.util.function.IntUnaryOperator;
 
 /** What the tests of the promises share: texts put on tapes, and answers compared with what is due. */
 final class Desk {
@@ -162,5 +163,28 @@ final class Desk {
             thrown = true;
         }
         due("herd(" + h + ", " + what + ") throws", thrown, true);
+    }
+
+    /** A call answers NONE to each argument that names a thing there is none of. */
+    void refuses(String call, int[] arguments, IntUnaryOperator of) {
+        for (int n : arguments) {
+            due(call + " of " + n, of.applyAsInt(n), -1);
+        }
+    }
+
+    void refusesCells(String call, IntUnaryOperator of) {
+        refuses(call, NO_CELLS, of);
+    }
+
+    void refusesNumbers(String call, IntUnaryOperator of) {
+        refuses(call, NO_NUMBERS, of);
+    }
+
+    void refusesDays(String call, IntUnaryOperator of) {
+        refuses(call, NO_DAYS, of);
+    }
+
+    void refusesHerds(String call, IntUnaryOperator of) {
+        refuses(call, NO_HERDS, of);
     }
 }

@@ -1,5 +1,3 @@
-import java.util.function.IntUnaryOperator;
-
 /**
  * The boundary cases that the document names of the land, of ways and of signals, sentence by sentence, each in a test
  * of its own: what ==== 2 tells, and promises 6 to 25.
@@ -24,29 +22,6 @@ public final class LandEdgesTest {
     private static void dueText(StiltHerds x, int from, int to, int h, String want) {
         DESK.due("write(" + from + ", " + to + ")", x.write(from, to, h, 0), want.length());
         DESK.due("the text is " + text(x) + ", due is " + want, text(x).equals(want), true);
-    }
-
-    /** No argument of a call that names a thing there is none of answers anything but NONE. */
-    private static void refuses(String call, int[] arguments, IntUnaryOperator of) {
-        for (int n : arguments) {
-            DESK.due(call + " of " + n, of.applyAsInt(n), -1);
-        }
-    }
-
-    private static void refusesCells(String call, IntUnaryOperator of) {
-        refuses(call, Desk.NO_CELLS, of);
-    }
-
-    private static void refusesNumbers(String call, IntUnaryOperator of) {
-        refuses(call, Desk.NO_NUMBERS, of);
-    }
-
-    private static void refusesDays(String call, IntUnaryOperator of) {
-        refuses(call, Desk.NO_DAYS, of);
-    }
-
-    private static void refusesHerds(String call, IntUnaryOperator of) {
-        refuses(call, Desk.NO_HERDS, of);
     }
 
     // ---- ==== 2
@@ -439,9 +414,9 @@ public final class LandEdgesTest {
             int what = sort;
             DESK.due("the first DAY", x.on(0, what), 7);
             DESK.due("the last DAY", x.on(29, what), 7);
-            refusesDays("on()", day -> x.on(day, what));
+            DESK.refusesDays("on()", day -> x.on(day, what));
         }
-        refuses("on() by what", new int[] {-1, 3, 4, Integer.MIN_VALUE, Integer.MAX_VALUE}, what -> x.on(0, what));
+        DESK.refuses("on() by what", new int[] {-1, 3, 4, Integer.MIN_VALUE, Integer.MAX_VALUE}, what -> x.on(0, what));
     }
 
     @Sentence("9: TIMBER of all HERDS: 0 without one")
@@ -476,7 +451,7 @@ public final class LandEdgesTest {
         DESK.due("no MOOR", new StiltHerds().deepest(0), -1);
         DESK.due("a MOOR without rows", Desk.on("water 0 9;").deepest(0), -1);
         StiltHerds x = plain();
-        refusesDays("deepest()", day -> x.deepest(day));
+        DESK.refusesDays("deepest()", day -> x.deepest(day));
         DESK.due("the last DAY is one", x.deepest(29), 0);
     }
 
@@ -502,8 +477,8 @@ public final class LandEdgesTest {
     @Sentence("12: NONE: no such ones")
     private static void nearOfNoSuch() {
         StiltHerds x = plain();
-        refusesHerds("near() of HERD", h -> x.near(h, 1));
-        refusesNumbers("near() in", n -> x.near(0, n));
+        DESK.refusesHerds("near() of HERD", h -> x.near(h, 1));
+        DESK.refusesNumbers("near() in", n -> x.near(0, n));
         DESK.due("99 is one", x.near(0, 99), 2);
         DESK.due("the last HERD is one", x.near(1, 0), 0);
     }
@@ -511,9 +486,9 @@ public final class LandEdgesTest {
     @Sentence("13: NONE: no such ones (h 0 to 99)")
     private static void standsOfNoSuch() {
         StiltHerds x = plain();
-        refusesCells("stands() on", at -> x.stands(at, 0, 0));
-        refusesNumbers("stands() with", h -> x.stands(0, h, 0));
-        refusesDays("stands() on DAY", day -> x.stands(0, 0, day));
+        DESK.refusesCells("stands() on", at -> x.stands(at, 0, 0));
+        DESK.refusesNumbers("stands() with", h -> x.stands(0, h, 0));
+        DESK.refusesDays("stands() on DAY", day -> x.stands(0, 0, day));
         DESK.due("0 is one", x.stands(0, 0, 0), 1);
         DESK.due("99 is one", x.stands(12, 99, 29), 1);
     }
@@ -533,10 +508,10 @@ public final class LandEdgesTest {
     @Sentence("14: NONE: no such ones")
     private static void stepsOfNoSuch() {
         StiltHerds x = plain();
-        refusesCells("steps() from", at -> x.steps(at, 0, 0, 0));
-        refusesCells("steps() to", at -> x.steps(0, at, 0, 0));
-        refusesNumbers("steps() with", h -> x.steps(0, 0, h, 0));
-        refusesDays("steps() on", day -> x.steps(0, 0, 0, day));
+        DESK.refusesCells("steps() from", at -> x.steps(at, 0, 0, 0));
+        DESK.refusesCells("steps() to", at -> x.steps(0, at, 0, 0));
+        DESK.refusesNumbers("steps() with", h -> x.steps(0, 0, h, 0));
+        DESK.refusesDays("steps() on", day -> x.steps(0, 0, 0, day));
         DESK.due("all at their most", x.steps(0, 12, 99, 29), 3);
     }
 
@@ -548,10 +523,10 @@ public final class LandEdgesTest {
         DESK.due("a WAY by the door", x.risk(0, 2, 3, 0), 36);
         DESK.due("a WAY through the water", x.risk(0, 2, 5, 0), 2 * (9 + 2));
         DESK.due("to itself", x.risk(0, 0, 4, 0), 0);
-        refusesCells("risk() from", at -> x.risk(at == 20 || at == 12 ? 30 : at, 0, 0, 0));
-        refusesCells("risk() to", at -> x.risk(0, at, 0, 0));
-        refusesNumbers("risk() with", h -> x.risk(0, 0, h, 0));
-        refusesDays("risk() on", day -> x.risk(0, 0, 0, day));
+        DESK.refusesCells("risk() from", at -> x.risk(at == 20 || at == 12 ? 30 : at, 0, 0, 0));
+        DESK.refusesCells("risk() to", at -> x.risk(0, at, 0, 0));
+        DESK.refusesNumbers("risk() with", h -> x.risk(0, 0, h, 0));
+        DESK.refusesDays("risk() on", day -> x.risk(0, 0, 0, day));
     }
 
     @Sentence("16: CELL i of the WAY of the latest walk() that was not NONE")
@@ -583,7 +558,7 @@ public final class LandEdgesTest {
         x.walk(0, 30, 0, 1);
         DESK.due("ahead of any that was not NONE", x.way(0), -1);
         x.walk(0, 1, 0, 1);
-        refuses("way()", new int[] {-1, 2, 99, 100, Integer.MIN_VALUE, Integer.MAX_VALUE}, i -> x.way(i));
+        DESK.refuses("way()", new int[] {-1, 2, 99, 100, Integer.MIN_VALUE, Integer.MAX_VALUE}, i -> x.way(i));
         // A comb of walls, so that the only WAY takes 59 CELLS.
         StiltHerds snake = Desk.on("row 1 1 1 1 1 1 1 1 1 1;row 0 0 0 0 0 0 0 0 0 1;row 1 1 1 1 1 1 1 1 1 1;"
             + "row 1 0 0 0 0 0 0 0 0 0;row 1 1 1 1 1 1 1 1 1 1;row 0 0 0 0 0 0 0 0 0 1;row 1 1 1 1 1 1 1 1 1 1;"
@@ -600,10 +575,10 @@ public final class LandEdgesTest {
         DESK.due("by a ladder", x.ladders(0, 2, 99, 0), 2);
         DESK.due("none", Desk.on("row 5 5 5;door 2 0 0;").ladders(0, 2, 1, 0), -1);
         StiltHerds y = plain();
-        refusesCells("ladders() from", at -> y.ladders(at, 0, 0, 0));
-        refusesCells("ladders() to", at -> y.ladders(0, at, 0, 0));
-        refusesNumbers("ladders() with", h -> y.ladders(0, 0, h, 0));
-        refusesDays("ladders() on", day -> y.ladders(0, 0, 0, day));
+        DESK.refusesCells("ladders() from", at -> y.ladders(at, 0, 0, 0));
+        DESK.refusesCells("ladders() to", at -> y.ladders(0, at, 0, 0));
+        DESK.refusesNumbers("ladders() with", h -> y.ladders(0, 0, h, 0));
+        DESK.refusesDays("ladders() on", day -> y.ladders(0, 0, 0, day));
         DESK.due("all at their most", y.ladders(0, 12, 99, 29), 3);
     }
 
@@ -634,10 +609,10 @@ public final class LandEdgesTest {
         StiltHerds x = Desk.on("row 5 5 5;row 5 5 5;water 1 6;");
         DESK.due("a text", x.write(0, 2, 0, 0), 2);
         DESK.due("no WAY", x.write(0, 1, 0, 1), -1);
-        refusesCells("write() from", at -> x.write(at, 0, 0, 0));
-        refusesCells("write() to", at -> x.write(0, at, 0, 0));
-        refusesNumbers("write() with", h -> x.write(0, 0, h, 0));
-        refusesDays("write() on", day -> x.write(0, 0, 0, day));
+        DESK.refusesCells("write() from", at -> x.write(at, 0, 0, 0));
+        DESK.refusesCells("write() to", at -> x.write(0, at, 0, 0));
+        DESK.refusesNumbers("write() with", h -> x.write(0, 0, h, 0));
+        DESK.refusesDays("write() on", day -> x.write(0, 0, 0, day));
         DESK.due("the text made last stays", text(x).equals("ee"), true);
     }
 
@@ -648,7 +623,7 @@ public final class LandEdgesTest {
         x.write(0, 12, 0, 0);
         DESK.due("the first byte", x.byteAt(0), 'e');
         DESK.due("the last byte", x.byteAt(2), 's');
-        refuses("byteAt()", new int[] {-1, 3, 4, 99, 100, Integer.MIN_VALUE, Integer.MAX_VALUE}, i -> x.byteAt(i));
+        DESK.refuses("byteAt()", new int[] {-1, 3, 4, 99, 100, Integer.MIN_VALUE, Integer.MAX_VALUE}, i -> x.byteAt(i));
         x.write(0, 1, 0, 0);
         DESK.due("a shorter text", x.byteAt(0), 'e');
         DESK.due("nothing of the longer one is left", x.byteAt(1), -1);
@@ -662,10 +637,10 @@ public final class LandEdgesTest {
         DESK.due("how many: 0", x.passes(0, 1, 0, 0), 0);
         DESK.due("the least", x.passes(0, 1, 0, 1), -1);
         DESK.due("the greatest", x.passes(0, 1, 0, 2), -1);
-        refusesCells("passes() from", at -> x.passes(at, 0, 0, 0));
-        refusesCells("passes() to", at -> x.passes(0, at, 0, 0));
-        refusesDays("passes() on", day -> x.passes(0, 0, day, 0));
-        refuses("passes() by what", new int[] {-1, 3, Integer.MIN_VALUE, Integer.MAX_VALUE}, what -> x.passes(0, 0, 0, what));
+        DESK.refusesCells("passes() from", at -> x.passes(at, 0, 0, 0));
+        DESK.refusesCells("passes() to", at -> x.passes(0, at, 0, 0));
+        DESK.refusesDays("passes() on", day -> x.passes(0, 0, day, 0));
+        DESK.refuses("passes() by what", new int[] {-1, 3, Integer.MIN_VALUE, Integer.MAX_VALUE}, what -> x.passes(0, 0, 0, what));
         DESK.due("of one CELL", x.passes(0, 0, 29, 0), 100);
     }
 
@@ -682,9 +657,9 @@ public final class LandEdgesTest {
     @Sentence("21: NONE: no such ones")
     private static void reachOfNoSuch() {
         StiltHerds x = plain();
-        refusesCells("reach() from", at -> x.reach(at, 0, 0));
-        refusesNumbers("reach() with", h -> x.reach(0, h, 0));
-        refusesDays("reach() on", day -> x.reach(0, 0, day));
+        DESK.refusesCells("reach() from", at -> x.reach(at, 0, 0));
+        DESK.refusesNumbers("reach() with", h -> x.reach(0, h, 0));
+        DESK.refusesDays("reach() on", day -> x.reach(0, 0, day));
         DESK.due("all at their most", x.reach(12, 99, 29), 6);
     }
 
@@ -693,7 +668,7 @@ public final class LandEdgesTest {
     @Sentence("22: NONE: no such one")
     private static void seesOfNoSuch() {
         StiltHerds x = plain();
-        refusesHerds("sees()", h -> x.sees(h));
+        DESK.refusesHerds("sees()", h -> x.sees(h));
         DESK.due("the last HERD is one", x.sees(1), 0);
         DESK.due("without HERDS", new StiltHerds().sees(0), -1);
     }
@@ -724,8 +699,8 @@ public final class LandEdgesTest {
     @Sentence("23: so many inches (0 to 99); NONE: no such ones")
     private static void sawOfNoSuch() {
         StiltHerds x = plain();
-        refusesCells("saw() on", at -> x.saw(at, 0));
-        refusesNumbers("saw() of", inches -> x.saw(0, inches));
+        DESK.refusesCells("saw() on", at -> x.saw(at, 0));
+        DESK.refusesNumbers("saw() of", inches -> x.saw(0, inches));
         DESK.due("of 0", x.saw(0, 0), 1);
         DESK.due("of 99", x.saw(12, 99), 2);
     }
@@ -747,9 +722,9 @@ public final class LandEdgesTest {
         DESK.due("it can't", x.handed(0, 1), -1);
         StiltHerds y = Desk.on("row 5 5;herd a 0 0 1;herd b 0 0 1;");
         DESK.due("on one CELL it can't", y.handed(0, 1), -1);
-        refusesHerds("handed() from", h -> x.handed(h, 0));
-        refusesHerds("handed() to", h -> x.handed(0, h));
-        refusesHerds("handed() from and to", h -> x.handed(h, h));
+        DESK.refusesHerds("handed() from", h -> x.handed(h, 0));
+        DESK.refusesHerds("handed() to", h -> x.handed(0, h));
+        DESK.refusesHerds("handed() from and to", h -> x.handed(h, h));
         StiltHerds chain = Desk.on("row 5 5 5 5 5 5 5 5;row 5 5 5 5 5 5 5 5;row 5 5 5 5 5 5 5 5;herd a 0 0 1;herd b 0 2 1;herd c 1 2 1;"
             + "herd d 1 0 1;");
         DESK.due("a chain goes on", chain.handed(0, 2) > 0, true);
