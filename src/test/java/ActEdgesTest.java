@@ -61,6 +61,17 @@ public final class ActEdgesTest {
         DESK.due("by WATER of DAY 1", today.lost(0, 3), 0);
     }
 
+    @Sentence("The WOLF goes where DEPTH is its N or less: of the CELL that it leaves nothing is told")
+    private static void wolfCaughtByTheWater() {
+        StiltHerds x = Desk.on("row 4 9;water 1 6;herd a 1 0 9;wolf 0 0 1;");
+        x.day();
+        DESK.due("it leaves its CELL", x.night(2), 1);
+        DESK.due("its CELL", x.wolf(0), 1);
+        StiltHerds y = Desk.on("row 4 9;water 1 6;herd a 0 0 9;wolf 0 0 1;");
+        y.day();
+        DESK.due("it takes HEADS there", y.night(2), 2);
+    }
+
     @Sentence("in each round it goes one STEP of the shortest way")
     private static void oneStepARound() {
         StiltHerds x = Desk.on("row 5 5 5 5;herd a 3 0 9;wolf 0 0 0;");
@@ -150,6 +161,24 @@ public final class ActEdgesTest {
             DESK.due("it took none in " + moor, x.wolf(2), 0);
             DESK.due("such a NIGHT is done, too", x.undo(), 0);
         }
+        StringBuilder eight = new StringBuilder();
+        for (char name = 'a'; name <= 'h'; name++) {
+            eight.append("herd ").append(name).append(" 0 0 0;");
+        }
+        StiltHerds all = Desk.on("row 5 5;wolf 1 0 0;" + eight);
+        DESK.due("eight HERDS without HEADS", all.night(20), 0);
+        DESK.due("its CELL", all.wolf(0), 1);
+        StiltHerds old = Desk.on("row 5 5;wolf 1 0 0;herd a 0 0 0;herd b 1 0 9;");
+        Desk.moor(old, "row 5 5;wolf 1 0 0;herd a 0 0 0;");
+        DESK.due("a HERD of the MOOR ahead of this one is none", old.night(3), 0);
+    }
+
+    @Sentence("A NIGHT on the widest MOOR")
+    private static void nightOnTheWidest() {
+        StiltHerds x = Desk.on("row 5 5 5 5 5 5 5 5 5 5;".repeat(10) + "wolf 0 0 0;herd a 9 9 9;");
+        DESK.due("18 STEPS off", x.lost(0, 18), 0);
+        DESK.due("then it takes", x.night(20), 2);
+        DESK.due("its CELL", x.wolf(0), 99);
     }
 
     // ---- ==== 4: ACTS
@@ -424,6 +453,15 @@ public final class ActEdgesTest {
         x.judge(0);
         DESK.due("behind what is no ACT done", x.undo(), -1);
         DESK.due("without a MOOR", new StiltHerds().undo(), -1);
+    }
+
+    @Sentence("31: a PLAN that was lived, of one LINE")
+    private static void planOfOneLineIsUndone() {
+        StiltHerds x = plain();
+        Desk.plan(x, "day;");
+        x.judge(1);
+        DESK.due("undo()", x.undo(), 0);
+        DESK.due("DAY", x.count(7), 0);
     }
 
     @Sentence("31: a PLAN that was lived as far as its first WRONG LINE")

@@ -195,9 +195,75 @@ public final class LandEdgesTest {
         DESK.due("63 is the least", x.passes(0, 1, 2, 1), 63);
         DESK.due("64 to 99", x.passes(0, 1, 3, 0), 36);
         DESK.due("64 is the least", x.passes(0, 1, 3, 1), 64);
+        StiltHerds round = Desk.on("row 5 5 5;row 5 5 5;door 1 0 10;");
+        DESK.due("the low ones straight on, the high ones round the door", round.passes(0, 2, 0, 0), 100);
         StiltHerds y = Desk.on("row 0 0 0;door 1 0 0;");
         DESK.due("0 alone", y.passes(0, 2, 0, 0), 1);
         DESK.due("0 is the greatest", y.passes(0, 2, 0, 2), 0);
+    }
+
+    @Sentence("PASSES: STILTS by which there is a WAY: no ladder is of use, one goes with the same all along")
+    private static void passesWithoutLadders() {
+        StiltHerds x = Desk.on("row 5 5 5;mud 0 0 50;ladder 0 0;ladder 1 0;door 2 0 40;herd a 0 0 60;herd b 0 0 45;herd c 0 0 30;");
+        DESK.due("none passes", x.passes(0, 2, 0, 0), 0);
+        DESK.due("to the ladder", x.passes(0, 1, 0, 0), 50);
+        DESK.due("from the ladder", x.passes(1, 2, 0, 0), 41);
+        DESK.due("on a ladder", x.passes(0, 0, 0, 1), 50);
+        DESK.due("who()", x.who(0, 2), 0);
+        DESK.due("low()", x.low(0, 2), -1);
+        DESK.due("high()", x.high(2, 2), -1);
+        DESK.due("by ladders one does", x.ladders(1, 2, 99, 0), 1);
+    }
+
+    /** Ten rows of ten, hills and pools among them, so that unlike STILTS go by unlike ways. */
+    private static StiltHerds wide() {
+        StringBuilder text = new StringBuilder();
+        for (int y = 0; y < 10; y++) {
+            text.append("row");
+            for (int x = 0; x < 10; x++) {
+                text.append(' ').append((x * 37 + y * 61 + x * y * 13) % 97);
+            }
+            text.append(';');
+        }
+        return Desk.on(text + "water 0 70;water 1 96;water 2 30;door 4 4 80;door 8 9 66;mud 9 8 60;mud 3 5 20;ladder 9 9;ladder 0 0;");
+    }
+
+    @Sentence("PASSES: for each of 0 to 99 as steps() tells, on the widest MOOR")
+    private static void passesOnTheWidest() {
+        int[] cells = {0, 9, 44, 50, 55, 90, 98, 99};
+        for (int from : cells) {
+            for (int to : cells) {
+                StiltHerds x = wide();
+                int many = 0;
+                int least = -1;
+                int greatest = -1;
+                for (int h = 0; h <= 99; h++) {
+                    if (x.steps(from, to, h, 0) >= 0) {
+                        many++;
+                        least = least < 0 ? h : least;
+                        greatest = h;
+                    }
+                }
+                DESK.due("how many from " + from + " to " + to, x.passes(from, to, 0, 0), many);
+                x.passes(99 - from, to, 2, 0);
+                DESK.due("the least from " + from + " to " + to, x.passes(from, to, 0, 1), least);
+                DESK.due("the greatest from " + from + " to " + to, x.passes(from, to, 0, 2), greatest);
+            }
+        }
+    }
+
+    @Sentence("BY LADDERS: any STILTS from 0 to 99, each of them, on the widest MOOR")
+    private static void laddersOfEachHeight() {
+        String flat = "row 5 5 5 5 5 5 5 5 5 5;".repeat(10);
+        StiltHerds plain = Desk.on(flat + "ladder 5 5;");
+        StiltHerds all = wide();
+        for (int h = 0; h <= 99; h++) {
+            DESK.due("over flat ground with " + h, plain.ladders(0, 99, h, 0), 18);
+            int straight = all.steps(55, 44, h, 2);
+            DESK.due("where no ladder shortens it, with " + h, all.ladders(55, 44, h, 2) == straight || straight == -1, true);
+            StiltHerds one = Desk.on(flat + "ladder 9 8;door 9 9 " + h + ";mud 9 9 " + h + ";");
+            DESK.due("one height alone, " + h, one.ladders(0, 99, 99 - h, 0), 18);
+        }
     }
 
     @Sentence("BY LADDERS: at any CELL with a ladder on it to which one came one may go on with any STILTS from 0 to 99")
@@ -214,6 +280,16 @@ public final class LandEdgesTest {
         DESK.due("with STILTS as they are it is near", back.ladders(1, 2, 0, 0), 1);
         StiltHerds two = Desk.on("row 5 5 5 5 5;ladder 0 0;door 1 0 0;ladder 2 0;mud 3 0 50;");
         DESK.due("two ladders, one behind the other", two.ladders(0, 4, 20, 0), 4);
+    }
+
+    @Sentence("BY LADDERS: without one on the way the STILTS are those at first")
+    private static void withoutLaddersStiltsStay() {
+        for (int only : new int[] {0, 35, 36, 63, 64, 99}) {
+            StiltHerds x = Desk.on("row 5 5;door 1 0 " + only + ";mud 1 0 " + only + ";");
+            for (int h = 0; h <= 99; h++) {
+                DESK.due("with " + h + " where " + only + " alone STANDS", x.ladders(0, 1, h, 0), h == only ? 1 : -1);
+            }
+        }
     }
 
     @Sentence("BY LADDERS: the first one, too")
@@ -424,6 +500,8 @@ public final class LandEdgesTest {
         DESK.due("without a MOOR", new StiltHerds().timber(), 0);
         DESK.due("without HERDS", Desk.on("row 5 5;timber 9;").timber(), 0);
         DESK.due("of the first and the last", Desk.on("row 5 5;timber 9;herd a 0 0 1;herd b 0 0 0;herd c 0 0 2;").timber(), 24);
+        DESK.due("of eight", Desk.on("row 5 5;timber 99;herd a 0 0 99;herd b 0 0 99;herd c 0 0 99;herd d 0 0 99;herd e 0 0 99;"
+            + "herd f 0 0 99;herd g 0 0 99;herd h 0 0 99;").timber(), 8 * 297);
     }
 
     @Sentence("10: HEADS of all HERDS: 0 without one")
@@ -469,6 +547,9 @@ public final class LandEdgesTest {
         DESK.due("today", x.near(0, 99), 0);
         x.trade(0, 1, 1);
         DESK.due("by its STILTS", x.near(0, 99), 2 | 4 | 8);
+        StiltHerds alone = Desk.on("row 5 0;water 0 5;herd a 0 0 1;herd b 0 0 1;");
+        DESK.due("on a CELL that it can't leave", alone.near(0, 0), 2);
+        DESK.due("HERD 0 as the other one", alone.near(1, 0), 1);
         StiltHerds far = Desk.on("row 5 5 5 5 5 5 5 5 5 5;".repeat(10) + "herd a 0 0 1;herd b 9 9 1;");
         DESK.due("in 17", far.near(0, 17), 0);
         DESK.due("in 18", far.near(0, 18), 2);

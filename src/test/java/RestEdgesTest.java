@@ -228,6 +228,9 @@ public final class RestEdgesTest {
         DESK.due("one of two on no CELL", Desk.holes(x, 0, 0, 3, 3, 0, 3), -1);
         DESK.due("on no CELL behind one that nobody made", Desk.holes(x, 0, 0, 99, 0, 2, 3), -1);
         DESK.due("the tape is empty", x.count(9), 0);
+        x.feed(0x000003ff, -1, -1, -1, -1);
+        x.end(3);
+        DESK.due("what end() cut off is no hole", x.holes(), 3);
         DESK.due("without a MOOR", Desk.holes(new StiltHerds(), 0, 0, 3), -1);
         DESK.due("without HERDS none made them", Desk.holes(Desk.on("row 5 5;"), 0, 0, 3), 0);
     }
@@ -279,6 +282,11 @@ public final class RestEdgesTest {
         StiltHerds x = Desk.on("row 5 5;");
         DESK.due("without HERDS", x.seats(99), 1);
         dueSeats(x);
+        StiltHerds y = herdsOf(7, 7);
+        y.seats(0);
+        Desk.moor(y, "row 5 5;");
+        DESK.due("HERDS no more", y.seats(0), 1);
+        dueSeats(y);
     }
 
     @Sentence("37: of the latest seats() that was 1 or more")
@@ -298,6 +306,13 @@ public final class RestEdgesTest {
         dueSeats(x, 0, 1, 2);
         x.seats(1);
         dueSeats(x, 0, 1);
+    }
+
+    @Sentence("37: of the latest seats() that was 1")
+    private static void seatsOfOne() {
+        StiltHerds x = herdsOf(7);
+        DESK.due("seats(0)", x.seats(0), 1);
+        dueSeats(x, 0);
     }
 
     @Sentence("37: NONE: none such, or ahead of any")
@@ -398,6 +413,7 @@ public final class RestEdgesTest {
         x.day();
         DESK.due("not on a DAY behind", x.dry(0, 1, 0), -1);
         DESK.due("with an inch", x.dry(0, 1, 1), 1);
+        DESK.due("WIND and FOG of DAY 0 are no WATER of a DAY 30", Desk.on("row 5 5;water 0 9;wind 0 1;fog 0 1;").dry(0, 1, 0), -1);
         DESK.due("on none by a door", Desk.on("row 5 5;door 1 0 3;").dry(0, 1, 4), -1);
         StiltHerds y = plain();
         DESK.refusesCells("dry() from", at -> y.dry(at, 0, 0));

@@ -567,6 +567,7 @@ public final class TextEdgesTest {
         DESK.moorFaultAt("row 0 1 2 3 4 5 6 7 8 9  @0 ?", 4);
         DESK.moorFaultAt("row 5 5;row 5 5  @5 ?", 4);
         DESK.moorFaultAt("row 5 5 5;row 5 5 5;row 5 5 5  @0;", 4);
+        DESK.moorFaultAt(rowsOfTen(9) + "row 0 1 2 3 4 5 6 7 8 9 @0;", 4);
     }
 
     @Sentence("4 a row of too few (at its ;)")
@@ -639,6 +640,28 @@ public final class TextEdgesTest {
         DESK.due("none stay", x.count(9), 0);
     }
 
+    @Sentence("3: what is cut off is no part of a text")
+    private static void whatIsCutOffIsNotRead() {
+        String[] texts = {"rows", "law 12", "law 1 2;;", "row 1 2;?"};
+        int[] cuts = {3, 5, 8, 8};
+        int[] due = {-1 - 3, -1 - 5, 1, 1};
+        for (int i = 0; i < texts.length; i++) {
+            StiltHerds x = new StiltHerds();
+            Desk.feed(x, texts[i]);
+            x.end(cuts[i]);
+            DESK.due(cuts[i] + " bytes of " + texts[i], x.moor(), due[i]);
+        }
+        StiltHerds x = new StiltHerds();
+        Desk.feed(x, "day;night");
+        x.end(4);
+        DESK.due("a PLAN", x.plan(), 1);
+        Desk.feed(x, "ab");
+        Desk.plan(x, "");
+        Desk.feed(x, "nightday;");
+        x.end(5);
+        DESK.due("a PLAN cut in a LINE", x.plan(), -1 - 5);
+    }
+
     @Sentence("3: false, if it has not so many, or n is below 0")
     private static void endRefuses() {
         StiltHerds x = new StiltHerds();
@@ -670,6 +693,36 @@ public final class TextEdgesTest {
         Desk.holes(x, 0);
         DESK.due("the tape is empty behind holes() of NONE", x.count(9), 0);
         DESK.due("the MOOR was not told again", x.count(0), 2);
+    }
+
+    @Sentence("4: The tape is the MOOR now: nothing of the one ahead of it is left")
+    private static void nothingOfTheOldMoor() {
+        String full = rowsOfTen(2) + "law 3 4;timber 50;water 0 9;wind 0 9;fog 0 9;" + things("door", 12, " 1")
+            + things("mud", 12, " 1") + things("ladder", 12, "") + herds(8) + "wolf 0 0 9;";
+        StiltHerds x = Desk.on(full);
+        DESK.due("a MOOR with a FAULT at its end", Desk.moor(x, full + "?"), -1 - full.length());
+        DESK.due("the same again", Desk.moor(x, full), 2 + 5 + 36 + 9);
+        DESK.due("12 ladders", x.count(10), 12);
+        DESK.due("another", Desk.moor(x, "row 5 5;herd z 1 0 7;"), 2);
+        int[] due = {2, 1, 1, 99, 0, 0, 1, 0, 0, 0, 0};
+        for (int what = 0; what < due.length; what++) {
+            DESK.due("count(" + what + ")", x.count(what), due[what]);
+        }
+        DESK.due("no timber", x.timber(), 14);
+        DESK.due("HEADS", x.flock(), 7);
+        DESK.due("no wolf", x.wolf(0), -1);
+        for (int sort = 0; sort < 3; sort++) {
+            DESK.due("no weather", x.on(29, sort), 0);
+        }
+        DESK.due("no door", x.cell(0, 2), -1);
+        DESK.due("no mud", x.cell(0, 3), -1);
+        DESK.due("one HERD alone", x.cell(0, 4), 0);
+        DESK.due("no ladder", x.ladders(0, 1, 5, 0), 1);
+        DESK.due("no old NAME", Desk.plan(x, "sell a 1;"), -1 - 5);
+        DESK.due("the new NAME", Desk.plan(x, "sell z 1;"), 1);
+        DESK.noCell(x, 2, 0);
+        DESK.noCell(x, 10, 0);
+        DESK.noHerd(x, 1, 0);
     }
 
     @Sentence("4: -1 less the place of a FAULT: it stays")
