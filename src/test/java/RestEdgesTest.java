@@ -541,6 +541,31 @@ public final class RestEdgesTest {
         dueWay(x, 22, 12, 2, 1, 0);
     }
 
+    @Sentence("WALK: a WAY of least RISK through all 100 CELLS, the longest there is")
+    private static void throughAllCells() {
+        StringBuilder rows = new StringBuilder();
+        for (int y = 0; y < 10; y++) {
+            rows.append("row");
+            for (int x = 0; x < 10; x++) {
+                rows.append(' ').append(10 * y + (y % 2 == 0 ? x : 9 - x));
+            }
+            rows.append(';');
+        }
+        // To the next inch each STEP is a RISK of 1; any other STEP is more than the way round.
+        StiltHerds x = Desk.on(rows.toString());
+        DESK.due("RISK", x.risk(0, 90, 19, 0), 99);
+        DESK.due("STEPS of the shortest", x.steps(0, 90, 19, 0), 9);
+        for (int seed : SEEDS) {
+            DESK.due("walk by " + seed, x.walk(0, 90, 19, seed), fall(seed, 99, 1));
+            DESK.due("walk back by " + seed, x.walk(90, 0, 19, seed), fall(seed, 99, 1));
+        }
+        x.walk(0, 90, 19, 1);
+        for (int i = 0; i < 100; i++) {
+            DESK.due("way(" + i + ")", x.way(i), i / 10 % 2 == 0 ? i : 10 * (i / 10) + 9 - i % 10);
+        }
+        DESK.due("way(100)", x.way(100), -1);
+    }
+
     @Sentence("43: the STEP (from 1) at which one falls; 0: none")
     private static void stepFromOne() {
         StiltHerds x = Desk.on("row 5 5 25;wind 1 99;");
